@@ -4,7 +4,7 @@ import java.util.Random;
 
 /** Runs of calls by draws, with fixed seeds, on SnowTalk and on its twin side by side. */
 public final class TwinTest {
-    private static final int RUNS = 1500;
+    private static final int RUNS = 600;
     private static final int CALLS = 512;
 
     private final Random random;
