@@ -29,8 +29,8 @@ public final class SnowTalk {
     private final Street now;
     // What is only tried is tried here, so that nothing is DONE in fact.
     private final Street trial;
+    // None stands where nothing was kept.
     private final Street[] images;
-    private int imagesKept;
     private final Talk talk;
     private final Places places;
     private final Salt salt;
@@ -41,10 +41,6 @@ public final class SnowTalk {
         now = new Street();
         trial = new Street();
         images = new Street[IMAGES];
-        for (int i = 0; i < IMAGES; i++) {
-            images[i] = new Street();
-        }
-        imagesKept = 0;
         talk = new Talk();
         places = new Places();
         salt = new Salt();
@@ -385,8 +381,10 @@ public final class SnowTalk {
         if (isOutside(n, 0, IMAGES - 1)) {
             return OUTSIDE;
         }
+        if (images[n] == null) {
+            images[n] = new Street();
+        }
         images[n].copy(now);
-        imagesKept |= 1 << n;
         return 1;
     }
 
@@ -394,7 +392,7 @@ public final class SnowTalk {
         if (isOutside(n, 0, IMAGES - 1)) {
             return OUTSIDE;
         }
-        if ((imagesKept >> n & 1) == 0) {
+        if (images[n] == null) {
             return STATE;
         }
         now.copy(images[n]);
@@ -526,9 +524,14 @@ public final class SnowTalk {
             forgetWords();
         }
 
+        /** LAWS thaw often: gardens in which nothing was said have nothing to forget. */
         void forgetWords() {
-            Arrays.fill(said, 0);
-            Arrays.fill(flakes, 0);
+            for (int g = 0; g < MOST_GARDENS; g++) {
+                if (said[g] != 0) {
+                    said[g] = 0;
+                    Arrays.fill(flakes, g * MOST_GARDENS, (g + 1) * MOST_GARDENS, 0);
+                }
+            }
         }
 
         void copy(Street from) {

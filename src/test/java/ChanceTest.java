@@ -10,6 +10,7 @@ public final class ChanceTest {
         elsewhere();
         winterRefuses();
         winter();
+        winterDraws();
         C.end();
     }
 
@@ -78,6 +79,7 @@ public final class ChanceTest {
     private static void build() {
         SnowTalk x = new SnowTalk();
         C.due("25: nothing", x.build(0, 0, 12, 1, 1), 0);
+        C.due("25: no evening", x.build(0, 10, 0, 1, 1), 0);
         C.due("25: just a half", x.build(0, 5, 1, 1, 2), 0);
         C.due("25: over a half", x.build(0, 5, 1, 51, 100), 3);
         C.due("25: 3 by 4 of two", x.build(0, 5, 2, 3, 4), 3);
@@ -158,5 +160,22 @@ public final class ChanceTest {
         x.garden(5, 0, 0);
         x.garden(0, 0, 999);
         ends("not over 999", x, 1, 1, 1008, 32, 3);
+    }
+
+    private static void winterDraws() {
+        SnowTalk x = new SnowTalk();
+        for (int g = 0; g < 6; g++) {
+            x.garden(g, 1, 0);
+        }
+        // The first draws are 224, 299, 524, 374 and 599.
+        ends("left over 3: t in b", x, 3, 1, 1, 2, 0);
+        ends("left over 4: t in f", x, 6, 1, 1, 32, 0);
+        ends("left over 6: l in e", x, 4, 1, 3, 16, 0);
+        ends("left over 7: l in c", x, 7, 1, 3, 4, 0);
+        // 4499: left over 3, 562 left over 4, 70 left over 4.
+        ends("of one in his own garden: not", x, 59, 1, 0, 0, 0);
+        x.garden(0, 0, 9);
+        x.garden(0, 1, 9);
+        ends("left over 0: a night", x, 2, 1, 9, 2, 0);
     }
 }

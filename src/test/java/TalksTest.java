@@ -101,6 +101,9 @@ public final class TalksTest {
         C.deep("1: salt at the end", x, "0 3 0 0 0 0");
         Check.tell(x, "a*");
         C.deep("1: salt at the head", x, "0 2 0 0 0 0");
+        Check.snow(x, 9, 9, 9, 9, 9, 9);
+        Check.tell(x, "c*");
+        C.deep("1: salt, one less on either side", x, "9 8 7 8 9 9");
     }
 
     private static void nightsAndThaws() {
@@ -216,6 +219,8 @@ public final class TalksTest {
         C.due("13: garden -1", x.recognised(-1), SnowTalk.UNKNOWN);
         Check.tell(x, "aCtaBt");
         C.due("13: of several the least", x.recognised(0), 1);
+        Check.tell(x, "fAt");
+        C.due("13: of A", x.recognised(5), 0);
         Check.tell(x, "aCt");
         C.due("13: again counts", x.recognised(0), 2);
         Check.tell(x, "aDl");

@@ -105,6 +105,10 @@ public final class WhoTest {
         C.due("22: no rows", x.next(1, 0), SnowTalk.NONE);
         C.due("22: no rows, how many", x.next(1, 1), SnowTalk.NONE);
         x.gardens(2);
+        x.garden(0, 0, 100);
+        C.due("22: where it is deep", x.next(1, 0), 0);
+        C.due("22: two give one each", x.next(1, 1), 2);
+        x.gardens(2);
         x.seen(1, 0);
         C.due("22: the one left", x.next(0, 0), 0);
         x.seen(0, 0);
