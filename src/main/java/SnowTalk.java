@@ -195,7 +195,7 @@ public final class SnowTalk {
             return NONE;
         }
         int words = 0;
-        for (int g = 0; now.has(g); g++) {
+        for (int g = 0; g < now.count && g < MOST_GARDENS; g++) {
             int tooDeep = Math.max(0, now.deep[g] - v);
             words += (tooDeep + shovel - 1) / shovel;
         }
@@ -221,7 +221,7 @@ public final class SnowTalk {
         }
         int comes = now.deep[garden];
         int at = garden + 1;
-        for (; now.has(at) && now.deep[at] >= v; at++) {
+        for (; at < now.count && at < MOST_GARDENS && now.deep[at] >= v; at++) {
             comes += now.deep[at];
         }
         if (what == 1) {
@@ -239,7 +239,7 @@ public final class SnowTalk {
         }
         // A slide stops in the first garden below that is less deep than v, so the shallowest one decides.
         int least = MOST_DEEP + 1;
-        for (int g = garden + 1; now.has(g); g++) {
+        for (int g = garden + 1; g < now.count && g < MOST_GARDENS; g++) {
             least = Math.min(least, now.deep[g] + 1);
         }
         return least <= now.deep[garden] ? least : NONE;

@@ -114,6 +114,11 @@ public final class ClearingTest {
         C.due("16: to 1", x.salted(1), 0);
         Check.snow(x, 1, 0, 1, 0, 0, 1);
         C.due("16: beside no snow", x.salted(0), 2);
+        for (int g = 0; g < 6; g++) {
+            Check.snow(x, 0, 0, 0, 0, 0, 0);
+            x.garden(g, 0, 3);
+            C.due("16: two for " + g, x.salted(0), 2);
+        }
         Check.snow(x, 10, 0, 0, 0, 0, 0);
         C.due("16: five", x.salted(0), 5);
         Check.snow(x, 10, 0, 0, 1, 0, 0);

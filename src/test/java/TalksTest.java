@@ -124,6 +124,9 @@ public final class TalksTest {
         C.deep("1: nothing is again behind a thaw", x, "3 0 0 0 0 0");
         Check.tell(x, ".aBl");
         C.deep("1: a night forgets nothing", x, "6 1 0 0 0 0");
+        x.gardens(8);
+        Check.tell(x, "hAlgHlwhAlgHt");
+        C.deep("1: eight gardens", x, "0 0 0 0 0 0 1 3");
     }
 
     private static void roofs() {
