@@ -881,7 +881,7 @@ public final class SnowTalk {
             talk = null;
         }
 
-        /** Fills best and fewest; the street is left as it was, but for what was said in it. */
+        /** Fills best and fewest. The street must be a copy: its flakes are not put back. */
         void find(Street from, Talk words) {
             if (from == null || words == null || words.words > MOST_PLACED) {
                 return;
@@ -996,7 +996,7 @@ public final class SnowTalk {
      * each such heap of words is looked at once, and counts for all its rows.
      */
     private static final class Rows {
-        // How deep a garden may be in a morning besides how deep it was: 1 less to 28 more.
+        // Room for what three words of 9 flakes and a night can change: from 1 less to 28 more.
         private static final int CHANGES = 32;
 
         final int[] picks;
