@@ -971,7 +971,7 @@ public final class SnowTalk {
                 }
                 return;
             }
-            for (int here = 0; spent + here < s.fewest; here++) {
+            for (int here = 0; here <= MOST_SPREADS && spent + here < s.fewest; here++) {
                 s.spreads[g] = here;
                 // What comes further down does not reach the garden above this one any more.
                 if (s.isEnough(g - 1)) {

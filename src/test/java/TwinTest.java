@@ -5,7 +5,8 @@ import java.util.Random;
 /** Runs of calls by draws, with fixed seeds, on SnowTalk and on its twin side by side. */
 public final class TwinTest {
     private static final int RUNS = 600;
-    private static final int CALLS = 512;
+    // A step makes at most some 75 calls: no object is used for more than 512.
+    private static final int CALLS = 430;
 
     private final Random random;
     private final SnowTalk x = new SnowTalk();
