@@ -285,7 +285,7 @@ public final class SnowTalk {
             return OUTSIDE;
         }
         rows.gather(now, m);
-        int garden = rows.gardenToMeasure();
+        int garden = rows.gardenToMeasure(now);
         return what == 0 || garden == NONE ? garden : rows.mostLeft(garden);
     }
 
@@ -663,6 +663,15 @@ public final class SnowTalk {
             return why;
         }
 
+        /** Says a word, if it can be: whether it can, and no roof falls behind it. */
+        boolean bearsWord(int kind, int g, int whom) {
+            if (hindrance(kind, g, whom) != 0) {
+                return false;
+            }
+            speak(kind, g, whom);
+            return overloaded() == 0;
+        }
+
         int mostSaidOf(int g) {
             if (!has(g)) {
                 return NONE;
@@ -870,61 +879,46 @@ public final class SnowTalk {
         final int[] tried;
         final int[] best;
         int fewest;
-        Street street;
-        Talk talk;
 
         Places() {
             tried = new int[MOST_PLACED];
             best = new int[MOST_PLACED];
             fewest = 0;
-            street = null;
-            talk = null;
         }
 
         /** Fills best and fewest. The street must be a copy: its flakes are not put back. */
-        void find(Street from, Talk words) {
-            if (from == null || words == null || words.words > MOST_PLACED) {
+        void find(Street street, Talk talk) {
+            if (street == null || talk == null || talk.words > MOST_PLACED) {
                 return;
             }
-            street = from;
-            talk = words;
-            fewest = words.words + 1;
-            placeFrom(this, 0, 0);
+            fewest = talk.words + 1;
+            placeFrom(this, street, talk, 0, 0);
         }
 
         /**
          * The gardens rise and unsaid comes last, so the first row found with
          * so few unsaid is the least of them.
          */
-        private static void placeFrom(Places p, int i, int unsaid) {
+        private static void placeFrom(Places p, Street street, Talk talk, int i, int unsaid) {
             if (unsaid >= p.fewest) {
                 return;
             }
-            if (i >= p.talk.words || i >= MOST_PLACED) {
+            if (i < 0 || i >= talk.words || i >= MOST_PLACED) {
                 p.keep(unsaid);
                 return;
             }
-            for (int g = 0; g < p.street.count && g < MOST_GARDENS; g++) {
-                int deepBefore = p.street.deep[g];
-                int saidBefore = p.street.said[g];
-                if (p.sayIn(i, g)) {
+            for (int g = 0; g < street.count && g < MOST_GARDENS; g++) {
+                int deepBefore = street.deep[g];
+                int saidBefore = street.said[g];
+                if (street.bearsWord(talk.kind[i], g, talk.whom[i])) {
                     p.tried[i] = g;
-                    placeFrom(p, i + 1, unsaid);
+                    placeFrom(p, street, talk, i + 1, unsaid);
                 }
-                p.street.deep[g] = deepBefore;
-                p.street.said[g] = saidBefore;
+                street.deep[g] = deepBefore;
+                street.said[g] = saidBefore;
             }
             p.tried[i] = NONE;
-            placeFrom(p, i + 1, unsaid + 1);
-        }
-
-        /** Says the i-th word there: whether it can be, and no roof falls behind it. */
-        private boolean sayIn(int i, int g) {
-            if (street.hindrance(talk.kind[i], g, talk.whom[i]) != 0) {
-                return false;
-            }
-            street.speak(talk.kind[i], g, talk.whom[i]);
-            return street.overloaded() == 0;
+            placeFrom(p, street, talk, i + 1, unsaid + 1);
         }
 
         private void keep(int unsaid) {
@@ -965,7 +959,7 @@ public final class SnowTalk {
         }
 
         private static void spreadFrom(Salt s, int g, int spent) {
-            if (g >= s.count || g >= MOST_GARDENS) {
+            if (g < 0 || g >= s.count || g >= MOST_GARDENS) {
                 if (s.isEnough(g - 1)) {
                     s.fewest = spent;
                 }
@@ -1004,7 +998,6 @@ public final class SnowTalk {
         final int[] morning;
         // For each garden and change of its depth, how many of the rows that fit leave it so.
         final int[] tally;
-        Street street;
         int said;
         int fit;
         int inSome;
@@ -1015,46 +1008,44 @@ public final class SnowTalk {
             day = new int[MOST_GARDENS];
             morning = new int[MOST_GARDENS];
             tally = new int[MOST_GARDENS * CHANGES];
-            street = null;
             said = 0;
             fit = 0;
             inSome = 0;
             inAll = 0;
         }
 
-        void gather(Street from, int m) {
-            if (from == null || isOutside(m, 0, MOST_SAID_TODAY)) {
+        void gather(Street street, int m) {
+            if (street == null || isOutside(m, 0, MOST_SAID_TODAY)) {
                 return;
             }
-            street = from;
             said = m;
             fit = 0;
             inSome = 0;
-            inAll = (1 << from.count) - 1;
+            inAll = (1 << street.count) - 1;
             Arrays.fill(tally, 0);
-            System.arraycopy(from.deep, 0, day, 0, MOST_GARDENS);
-            pickFrom(this, m, 0);
+            System.arraycopy(street.deep, 0, day, 0, MOST_GARDENS);
+            pickFrom(this, street, m, 0);
             if (fit == 0) {
                 inAll = 0;
             }
         }
 
         /** A pick is twice its garden, and one more for a LIE. */
-        private static void pickFrom(Rows r, int left, int least) {
+        private static void pickFrom(Rows r, Street street, int left, int least) {
             if (left < 1 || left > MOST_SAID_TODAY) {
-                r.weigh();
+                r.weigh(street);
                 return;
             }
-            for (int pick = least; pick < 2 * r.street.count && pick < 2 * MOST_GARDENS; pick++) {
-                int more = r.street.rule[(pick & 1) == 0 ? TRUE_WORD : LIE_WORD];
+            for (int pick = Math.max(0, least); pick < 2 * street.count && pick < 2 * MOST_GARDENS; pick++) {
+                int more = street.rule[(pick & 1) == 0 ? TRUE_WORD : LIE_WORD];
                 r.picks[left - 1] = pick;
                 r.day[pick >> 1] += more;
-                pickFrom(r, left - 1, pick);
+                pickFrom(r, street, left - 1, pick);
                 r.day[pick >> 1] -= more;
             }
         }
 
-        private void weigh() {
+        private void weigh(Street street) {
             System.arraycopy(day, 0, morning, 0, MOST_GARDENS);
             passNight(morning, street.count);
             if (!street.sightsHold(morning)) {
@@ -1087,7 +1078,7 @@ public final class SnowTalk {
             return all;
         }
 
-        int gardenToMeasure() {
+        int gardenToMeasure(Street street) {
             int best = NONE;
             if (fit == 0 || street == null) {
                 return best;

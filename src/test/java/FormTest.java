@@ -11,6 +11,8 @@ import java.util.HashSet;
 import java.util.List;
 import java.util.Set;
 import java.util.TreeSet;
+import java.util.regex.Matcher;
+import java.util.regex.Pattern;
 
 /** The public face, to the letter, and those rules of LANGUAGE.md that can be seen from outside or in the text. */
 public final class FormTest {
@@ -31,6 +33,7 @@ public final class FormTest {
         members();
         classesInside();
         text(Files.readAllLines(Path.of(SOURCE)));
+        library(Files.readString(Path.of(SOURCE)));
         C.end();
     }
 
@@ -110,6 +113,18 @@ public final class FormTest {
             }
             C.holds(c + " has at most twenty fields", fields <= 20);
         }
+    }
+
+    /** Rule 4: of the library only what it lists. Rule 7: no field waits as null; images alone may not be there. */
+    private static void library(String source) {
+        Set<String> fine = new HashSet<>(Arrays.asList(
+                "Arrays.fill", "Arrays.copyOf", "System.arraycopy", "Math.max", "Math.min"));
+        Pattern library = Pattern.compile("\\b(Arrays|System|Math|Integer|Long|String|Character|Objects)\\.\\w+");
+        Matcher used = library.matcher(source);
+        while (used.find()) {
+            C.holds(used.group() + " is of the library that may be used", fine.contains(used.group()));
+        }
+        C.holds("no reference is set to null", !Pattern.compile("[^=!]= null").matcher(source).find());
     }
 
     private static void text(List<String> lines) {
